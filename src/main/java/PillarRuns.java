@@ -15,6 +15,7 @@ public final class PillarRuns {
     private static final int MOST_STATES = 6;
     private static final int MOST_FIGURES = 3;
     /** Walls are numbered as bestWall tells them: rows from 0 on, columns from 10 on, 7 to 9 stand for none. */
+    private static final int FIRST_ROW_WALL = 0;
     private static final int FIRST_COLUMN_WALL = 10;
     private static final int WALL_NUMBERS = 21;
     /** Further than any two cells are apart. */
@@ -88,7 +89,7 @@ public final class PillarRuns {
             return refuse(BAD);
         }
         states.keep(mine);
-        int number = way == 0 ? k : FIRST_COLUMN_WALL + k;
+        int number = k + (way == 0 ? FIRST_ROW_WALL : FIRST_COLUMN_WALL);
         int before = mine.walls[number];
         mine.walls[number] = on;
         return before;
@@ -489,9 +490,7 @@ public final class PillarRuns {
 
         /** A room is counted where it starts: at its cell in the first row and column. */
         boolean startsRoom(int cell) {
-            int row = cell / COLUMNS;
-            int column = cell % COLUMNS;
-            return firstRow(row) == row && firstColumn(column) == column;
+            return !isOpenBelow(cell / COLUMNS - 1) && !isOpenRight(cell % COLUMNS - 1);
         }
 
         int countRooms() {
@@ -512,33 +511,18 @@ public final class PillarRuns {
             return column >= 0 && column < COLUMNS - 1 && walls[FIRST_COLUMN_WALL + column] == 0;
         }
 
-        int firstRow(int row) {
-            int first = row;
-            while (first > 0 && isOpenBelow(first - 1)) {
+        /** The first row or column of the room, by where the walls behind rows or behind columns start. */
+        int firstOf(int walled, int k) {
+            int first = k;
+            while (first > 0 && walls[walled + first - 1] == 0) {
                 first--;
             }
             return first;
         }
 
-        int lastRow(int row) {
-            int last = row;
-            while (last < ROWS - 1 && isOpenBelow(last)) {
-                last++;
-            }
-            return last;
-        }
-
-        int firstColumn(int column) {
-            int first = column;
-            while (first > 0 && isOpenRight(first - 1)) {
-                first--;
-            }
-            return first;
-        }
-
-        int lastColumn(int column) {
-            int last = column;
-            while (last < COLUMNS - 1 && isOpenRight(last)) {
+        int lastOf(int walled, int k, int most) {
+            int last = k;
+            while (last < most && walls[walled + last] == 0) {
                 last++;
             }
             return last;
@@ -556,7 +540,7 @@ public final class PillarRuns {
             Arrays.fill(under, NONE);
             Arrays.fill(apart, FAR);
             for (int p = 0; p < mine.pillars; p++) {
-                if (mine.isStanding(p)) {
+                if (mine.stands[p] == 1) {
                     claim(mine, p);
                 }
             }
@@ -567,13 +551,14 @@ public final class PillarRuns {
         private void claim(Mine mine, int p) {
             int row = mine.cells[p] / COLUMNS;
             int column = mine.cells[p] % COLUMNS;
-            int firstColumn = mine.firstColumn(column);
-            int lastColumn = mine.lastColumn(column);
-            int lastRow = mine.lastRow(row);
-            for (int r = mine.firstRow(row); r <= lastRow; r++) {
+            int lastRow = mine.lastOf(FIRST_ROW_WALL, row, ROWS - 1);
+            int firstColumn = mine.firstOf(FIRST_COLUMN_WALL, column);
+            int lastColumn = mine.lastOf(FIRST_COLUMN_WALL, column, COLUMNS - 1);
+            for (int r = mine.firstOf(FIRST_ROW_WALL, row); r <= lastRow; r++) {
+                int rowsApart = Math.abs(r - row);
                 for (int c = firstColumn; c <= lastColumn; c++) {
                     int cell = COLUMNS * r + c;
-                    int way = Math.abs(r - row) + Math.abs(c - column);
+                    int way = rowsApart + Math.abs(c - column);
                     if (way < apart[cell]) {
                         apart[cell] = way;
                         under[cell] = p;
@@ -595,7 +580,7 @@ public final class PillarRuns {
         }
 
         boolean isTooMuch(Mine mine, int p) {
-            return mine.isStanding(p) && loads[p] > mine.strengths[p];
+            return mine.stands[p] == 1 && loads[p] > mine.strengths[p];
         }
 
         int countTooMuch(Mine mine) {
@@ -822,7 +807,7 @@ public final class PillarRuns {
                     readWeight(trial.mine);
                     break;
                 case '-':
-                    readWall(trial.mine, 0, ROWS - 2);
+                    readWall(trial.mine, FIRST_ROW_WALL, ROWS - 2);
                     break;
                 case '/':
                     readWall(trial.mine, FIRST_COLUMN_WALL, COLUMNS - 2);
@@ -831,7 +816,10 @@ public final class PillarRuns {
                     readCrushed(trial.mine);
                     break;
                 case '!':
-                    readRun(trial);
+                    readEnd();
+                    if (fault == NONE) {
+                        trial.crush();
+                    }
                     break;
                 default:
                     fail(start);
@@ -879,13 +867,6 @@ public final class PillarRuns {
             readEnd();
             if (fault == NONE) {
                 mine.stands[p] = 0;
-            }
-        }
-
-        private void readRun(Trial trial) {
-            readEnd();
-            if (fault == NONE) {
-                trial.crush();
             }
         }
 

@@ -353,8 +353,31 @@ public final class PromisesTest {
         is("15: a run of none", x.runs(), 0);
         is("15: is the last one", x.wave(0, 0), 0);
         is("15: and has crushed none", x.wave(1, 0), NONE);
+        mostWaves();
         wavesAreForgotten();
         wavesOfTexts();
+    }
+
+    /** Each pillar holds its column, but not with the columns of all before it: twelve waves of one. */
+    private void mostWaves() {
+        PillarRuns x = new PillarRuns();
+        for (int p = 0; p < 12; p++) x.pillar(p, 8 * p + 7);
+        is("15: all fall without the first", x.would(0, 1), 96);
+        x.strength(11, 96);
+        is("15: the last one could hold all", x.would(0, 0), 11);
+        is("15: and have none to spare", x.cut(11), 0);
+        x.strength(11, 95);
+        type(x, "!;");
+        for (int way = 0; way < 2; way++) {
+            is("15: all twelve", way == 0 ? 12 - x.does() : x.runs(), 12);
+            is("15: twelve waves", x.wave(0, 0), 12);
+            for (int p = 0; p < 12; p++) {
+                is("15: wave of pillar " + p, x.wave(1, p), p + 1);
+                is("15: in wave " + (p + 1), x.wave(2, p + 1), 1);
+            }
+            is("15: none in a 13th", x.wave(2, 13), 0);
+            x.mends();
+        }
     }
 
     private void wavesAreForgotten() {
