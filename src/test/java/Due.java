@@ -11,6 +11,10 @@ final class Due {
         }
     }
 
+    int calls() {
+        return calls;
+    }
+
     boolean isAllRight() {
         return wrong == 0;
     }
