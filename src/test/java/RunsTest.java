@@ -120,11 +120,17 @@ public final class RunsTest extends SentenceTests {
     @Sentence(promise = 15, says = "WAVES of the last RUN of a call told S (what 0)")
     void wavesOfATextsRun() {
         PillarRuns x = mine(THREE_CORNERS);
+        x.loses(2);
+        does(x, "w 0 0 1;");
+        is("a text without a run leaves it", x.wave(0, 0), 2);
+        x.back();
+        x.back();
         does(x, "x2;!;");
         is("of a text", x.wave(0, 0), 2);
         is("its first", x.wave(1, 0), 1);
+        x.bestWall(0);
         does(x, "w 0 0 1;");
-        is("a text without a run leaves it", x.wave(0, 0), 2);
+        is("a text without a run leaves it, whatever was tried", x.wave(0, 0), 2);
         fault(x, "!;?", 2);
         is("one with a fault leaves it", x.wave(0, 0), 2);
         does(x, "p 5 5 0;!;p 5 6 0;!;!;p 7 7 999;");
@@ -220,18 +226,6 @@ public final class RunsTest extends SentenceTests {
         x.weight(0, 0);
         x.back();
         noWavesBehind("back, of another call than the run", x);
-    }
-
-    @Sentence(promise = 15, says = "and behind mends, anew, back")
-    void wavesStayWhereBackIsRefused() {
-        PillarRuns x = mine("p 0 0 0;");
-        x.runs();
-        is("there is one", x.wave(0, 0), 1);
-        refused("what is no pillar", x, BAD, () -> x.loses(1));
-        refused("what is crushed", x, NO, () -> x.loses(0));
-        x.back();
-        x.back();
-        refused("no state", x, NO, x::back);
     }
 
     @Sentence(promise = 15, says = "BAD: of what 0 k counts not")

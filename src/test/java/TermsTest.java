@@ -60,7 +60,7 @@ public final class TermsTest extends SentenceTests {
         PillarRuns x = mine("p 4 2 9;");
         is("by a call", x.pillar(50, 9), NO);
         fault(x, "p 4 2 9;", 0);
-        PillarRuns y = mine("p 0 0 9;p 0 2 9;");
+        PillarRuns y = mine("p 0 0 999;p 0 2 999;");
         is("nor by what would be best", y.bestCell(999, 0), 1);
     }
 

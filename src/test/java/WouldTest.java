@@ -176,6 +176,8 @@ public final class WouldTest extends SentenceTests {
         PillarRuns full = mine(FIRST_ROW);
         full.strength(11, 5);
         stays("the twelfth", full, full::mending, 3);
+        full.weight(95, 9);
+        is("asked for at once behind a change", full.mending(), 11);
     }
 
     /** No load is above 864, so some k is always enough. */
@@ -199,6 +201,8 @@ public final class WouldTest extends SentenceTests {
         stays("the last one", y, () -> y.bestWall(0), 20);
         does(y, ALL_ROWS);
         stays("the rows' are there", y, () -> y.bestWall(0), 13);
+        PillarRuns walled = mine("p 0 0 999;- 0;- 1;");
+        stays("none that is there", walled, () -> walled.bestWall(0), 2);
     }
 
     @Sentence(promise = 20, says = "0 to 6 rows, 10 to 20 columns (what 0")
@@ -278,6 +282,8 @@ public final class WouldTest extends SentenceTests {
         stays("none holds", x, () -> x.bestCell(95, 0), 0);
         does(x, "p 0 0 999;");
         stays("the first that has none", x, () -> x.bestCell(999, 0), 1);
+        x.strength(0, 0);
+        stays("and so where none is left standing", x, () -> x.bestCell(0, 0), 1);
     }
 
     @Sentence(promise = 21, says = "how many with itself (1)")
